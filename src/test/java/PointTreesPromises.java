@@ -257,6 +257,19 @@ public final class PointTreesPromises {
         due("7 axis 2 is none of two", p.bound(1, 0, 1), 2);
     }
 
+    private static void promise7LikeOnes() {
+        PointTrees p = space(2);
+        // Parted on x first, which turns the numbers round, then on y, where all but one are alike.
+        for (int i = 0; i < 10; i++) {
+            p.thing(-100 * i, -100 * i, 0, i == 5 ? 999 : 0, 0, 0);
+        }
+        due("7 of ten", p.build(), 7);
+        due("7 parted on y: like ones by numbers", p.bound(2, 0, 0), -800);
+        due("7 parted on y: like ones by numbers", p.bound(2, 0, 1), -600);
+        due("7 parted on y: the rest", p.bound(3, 0, 0), -900);
+        due("7 parted on y: the rest", p.bound(3, 1, 1), 999);
+    }
+
     private static void promise8Block() {
         PointTrees p = tens(17);
         due("8 ahead of build()", p.block(0, 0), -1);
@@ -349,6 +362,31 @@ public final class PointTreesPromises {
         p.thing(0, 2, 0, 2, 0, 2);
         due("10 the third is none of two", p.range(1, 0, 2, 0, 2, 9, 1), 1);
         due("10 the second counts", p.range(1, 0, 2, 0, 1, 0, 2), 0);
+    }
+
+    private static void promise10AxesThatThereAreNot() {
+        for (int relation = 0; relation < 4; relation++) {
+            PointTrees p = new PointTrees();
+            for (int i = 0; i < 5; i++) {
+                p.thing(0, 9, i, -i, LEAST, GREATEST);
+            }
+            int want = relation == 3 ? 0 : 5;
+            due("10 LOOSE " + relation, p.range(relation, 0, 9, 7, 7, 5, -5), want);
+            p.build();
+            due("10 built " + relation, p.range(relation, 0, 9, GREATEST, GREATEST, 5, -5), want);
+        }
+    }
+
+    private static void promise10Full() {
+        PointTrees p = tens(64);
+        for (int built = 0; built < 2; built++) {
+            due("10 all of 64", askLine(p, 0, 0, 630), 64);
+            due("10 the last of 64", p.found(63), 63);
+            due("10 past 64", p.found(64), -1);
+            p.build();
+        }
+        askLine(p, 1, 1, 629);
+        dueTold("10 of 64 but both ends", p, 9, 6, 56);
     }
 
     private static void promise10Refusals() {
@@ -491,6 +529,14 @@ public final class PointTreesPromises {
         due("13 like ones by numbers", p.nearest(0, 0, 0, 3), 3);
         due("13 y above", p.nearest(0, 1000001, 0, 0), -2);
         due("13 z below", p.nearest(0, 0, -1000001, 0), -2);
+        p = space(1);
+        p.thing(1, 1, 50, 50, 50, 50);
+        p.thing(2, 2, 0, 0, 0, 0);
+        due("13 y and z do not count", p.nearest(0, 0, 0, 0), 0);
+        p.dimensions(2);
+        p.thing(1, 1, 1, 1, 50, 50);
+        p.thing(1, 1, 2, 2, 0, 0);
+        due("13 y counts, z does not", p.nearest(0, 0, 0, 0), 0);
         p = space(3);
         p.thing(1000000, 1000000, 1000000, 1000000, 1000000, 1000000);
         p.thing(999999, 999999, 1000000, 1000000, 1000000, 1000000);
@@ -585,10 +631,13 @@ public final class PointTreesPromises {
         promise7KeepsAsked();
         promise7Order();
         promise7Axis();
+        promise7LikeOnes();
         promise8Block();
         promise9Bound();
         promise10Relations();
         promise10Axes();
+        promise10AxesThatThereAreNot();
+        promise10Full();
         promise10Refusals();
         promise10DropAndLoose();
         promise11Found();
