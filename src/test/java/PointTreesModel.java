@@ -7,8 +7,10 @@ import java.util.Random;
 /** Long runs of made-up calls, always the same ones, each answer held against a plain model. */
 public final class PointTreesModel {
     private static final long NOTHING = Long.MIN_VALUE;
-    private static final int RUNS = 400;
-    private static final int CALLS = 512;
+    private static final int RUNS = 3000;
+    // What an object answers behind its 512th call is free, and one step of a run makes up to 70 calls.
+    private static final int MOST_CALLS = 512;
+    private static final int MOST_CALLS_OF_A_STEP = 70;
     private static final int[] ODD_NUMBERS = {Integer.MIN_VALUE, Integer.MAX_VALUE, -1000001, 1000001, -1000000,
         1000000, -1, 64, 63, 31, 30, 3, 4};
 
@@ -295,6 +297,7 @@ public final class PointTreesModel {
     private final int run;
     private final Model model = new Model();
     private final PointTrees trees = new PointTrees();
+    private int calls = 0;
     private static int wrong = 0;
 
     private PointTreesModel(int run) {
@@ -329,6 +332,7 @@ public final class PointTreesModel {
     }
 
     private void due(String call, long got, long want) {
+        calls++;
         if (got != want) {
             wrong++;
             if (wrong <= 20) {
@@ -350,18 +354,25 @@ public final class PointTreesModel {
         for (int what = 0; what < 3; what++) {
             due("told " + what, trees.told(what), model.told(what));
         }
-        for (int k = -1; k <= model.found.size(); k++) {
+        boolean each = random.nextInt(8) == 0;
+        for (int k = each ? -1 : model.found.size() - 1; k <= model.found.size(); k++) {
             due("found " + k, trees.found(k), model.found(k));
         }
     }
 
     private void treeIsAsDue() {
         due("build", trees.build(), model.build());
-        for (int b = 0; b <= model.blocks.size(); b++) {
-            for (int i = -1; i <= 6; i++) {
-                due("block " + b + " " + i, trees.block(b, i), model.block(b, i));
-                due("bound " + b + " " + i, trees.bound(b, i / 2, i & 1), model.bound(b, i / 2, i & 1));
-            }
+        blockIsAsDue(model.blocks.size());
+        if (!model.blocks.isEmpty()) {
+            blockIsAsDue(model.blocks.size() - 1);
+            blockIsAsDue(random.nextInt(model.blocks.size()));
+        }
+    }
+
+    private void blockIsAsDue(int b) {
+        for (int i = -1; i <= 6; i++) {
+            due("block " + b + " " + i, trees.block(b, i), model.block(b, i));
+            due("bound " + b + " " + i, trees.bound(b, i / 2, i & 1), model.bound(b, i / 2, i & 1));
         }
     }
 
@@ -383,7 +394,7 @@ public final class PointTreesModel {
         due("told " + b, trees.told(b), model.told(b));
     }
 
-    private void call() {
+    private void step() {
         int pick = random.nextInt(100);
         if (pick < 25) {
             thing();
@@ -413,8 +424,11 @@ public final class PointTreesModel {
             PointTreesModel test = new PointTreesModel(run);
             int d = 1 + run % 3;
             test.due("dimensions " + d, test.trees.dimensions(d), test.model.dimensions(d));
-            for (int i = 0; i < CALLS; i++) {
-                test.call();
+            for (int n = test.random.nextInt(66); n > 0; n--) {
+                test.thing();
+            }
+            while (test.calls + MOST_CALLS_OF_A_STEP <= MOST_CALLS) {
+                test.step();
             }
         }
         System.out.println(wrong == 0 ? "all answers are as the model's" : wrong + " answers are not as the model's");
