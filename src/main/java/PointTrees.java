@@ -379,7 +379,6 @@ public final class PointTrees {
             toldCounts[TOLD_OPENED]++;
             if (!isParted(b)) {
                 askThingsOf(b, relation);
-                doneTo = blockTo[b];
             }
         }
     }

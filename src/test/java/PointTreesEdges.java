@@ -459,6 +459,18 @@ public final class PointTreesEdges {
         }
     }
 
+    private static void promise13BehindWhatWent() {
+        PointTrees p = space(1);
+        point(p, 0, 0, 0);
+        point(p, 5, 0, 0);
+        point(p, 9, 0, 0);
+        p.drop(0);
+        due("13 of two that are left", p.nearest(4, 0, 0, 0), 1);
+        due("13 the last one", p.nearest(4, 0, 0, 1), 2);
+        due("13 from another place", p.nearest(9, 0, 0, 0), 2);
+        due("13 and the other one", p.nearest(9, 0, 0, 1), 1);
+    }
+
     private static void promise13LikeOnes() {
         PointTrees p = space(2);
         for (int i = 0; i < 64; i++) {
@@ -634,6 +646,7 @@ public final class PointTreesEdges {
         promise12Told();
         promise12MostOpened();
         promise13Number();
+        promise13BehindWhatWent();
         promise13LikeOnes();
         promise13And14Place();
         promise13GreatSquares();
