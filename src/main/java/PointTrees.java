@@ -1,6 +1,6 @@
 /**
  * Points and boxes of one to three dimensions, in a tree of blocks that is made by middles.
- * All rows are made with the object and used again: no call makes an object of its own.
+ * All rows are made with the object and used again: no call makes an object but the exception of day().
  */
 public final class PointTrees {
     public static final long NOTHING = Long.MIN_VALUE;

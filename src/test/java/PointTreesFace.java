@@ -72,7 +72,8 @@ public final class PointTreesFace {
     private static void dueClasses() {
         due("the class", Modifier.toString(PointTrees.class.getModifiers()), "public final");
         for (Class<?> c : PointTrees.class.getDeclaredClasses()) {
-            due("seen class " + c, Modifier.isPublic(c.getModifiers()) || Modifier.isProtected(c.getModifiers()), false);
+            int m = c.getModifiers();
+            due("seen class " + c, Modifier.isPublic(m) || Modifier.isProtected(m), false);
             due("static class " + c, Modifier.isStatic(c.getModifiers()), true);
         }
     }
